@@ -16,14 +16,10 @@ public final class FaceTest {
         "int held(int,int,int)", "boolean measured(int,int)", "int alarm(int)"};
 
     public static void main(String[] args) {
-        Check.due("NONE", SpanBoard.NONE, -1);
-        face();
-        newObject();
-        int[][] rounds = {{1, 1}, {2, 2}, {8, 8}, {9, 9}, {0, 1}, {-5, 1}, {10, 9},
-            {Integer.MIN_VALUE, 1}, {Integer.MAX_VALUE, 9}};
-        for (int[] given : rounds) {
-            roundsAtMost(given[0], given[1]);
-        }
+        Check.holds("The constants: NONE = -1", () -> Check.due("NONE", SpanBoard.NONE, -1));
+        Check.holds("The public face", FaceTest::face);
+        rounds();
+        halls();
         Check.end();
     }
 
@@ -58,45 +54,22 @@ public final class FaceTest {
         Check.yes("the class is final", Modifier.isFinal(SpanBoard.class.getModifiers()));
     }
 
-    private static void newObject() {
-        SpanBoard x = new SpanBoard(3);
-        Check.due("letters()", x.letters(), 0);
-        for (int p = 0; p < 4; p++) {
-            for (int what = 0; what < 4; what++) {
-                Check.due("writer(" + p + ", " + what + ")", x.writer(p, what), 0);
+    private static void rounds() {
+        Check.holds("Promise 1: so many rounds at most, 1 .. 9", () -> {
+            for (int given = 1; given <= 9; given++) {
+                roundsAtMost(given, given);
             }
-            for (int r = 0; r < 9; r++) {
-                for (int field = 0; field < 3; field++) {
-                    Check.due("held(" + r + ", " + p + ", " + field + ")", x.held(r, p, field), 0);
-                }
+        });
+        Check.holds("Promise 1: what is less is the nearest of these", () -> {
+            for (int given : new int[] {0, -1, -5, Integer.MIN_VALUE}) {
+                roundsAtMost(given, 1);
             }
-        }
-        for (int r = 0; r < 3; r++) {
-            Check.due("outcome(" + r + ")", x.outcome(r), 0);
-            Check.due("answered(" + r + ", 0)", x.answered(r, 0), Steps.NONE);
-            for (int what = 0; what < 3; what++) {
-                Check.due("reader(" + r + ", " + what + ")", x.reader(r, what), 0);
+        });
+        Check.holds("Promise 1: what is more is the nearest of these", () -> {
+            for (int given : new int[] {10, 11, 300, Integer.MAX_VALUE}) {
+                roundsAtMost(given, 9);
             }
-        }
-        for (int r = 0; r < 9; r++) {
-            Check.no("restart of a recorder that is up", x.restart(r));
-        }
-        pointsAreInHallZero();
-    }
-
-    private static void pointsAreInHallZero() {
-        for (int p = 0; p < 4; p++) {
-            SpanBoard x = new SpanBoard(1);
-            x.read(0, p);
-            x.deliverAll(99);
-            Check.due("alarm(0) before a measure", x.alarm(0), Steps.NONE);
-            x.measured(1, 7);
-            x.measured(2, 7);
-            Check.due("alarm(0) with halls 1 and 2 measured", x.alarm(0), Steps.NONE);
-            x.measured(0, 7);
-            Check.due("alarm(0) with hall 0 measured", x.alarm(0), 0);
-            Check.due("alarm(1) with hall 0 measured", x.alarm(1), Steps.NONE);
-        }
+        });
     }
 
     private static void roundsAtMost(int given, int due) {
@@ -108,5 +81,37 @@ public final class FaceTest {
             Steps.disagree(x, 0);
         }
         Check.due("outcome(0) after round " + due, x.outcome(0), 3);
+    }
+
+    private static SpanBoard answeredPoint(int point) {
+        SpanBoard x = new SpanBoard(1);
+        x.read(0, point);
+        x.deliverAll(18);
+        return x;
+    }
+
+    private static void halls() {
+        Check.holds("Promise 1: points are in hall 0", () -> {
+            for (int p = 0; p < 4; p++) {
+                SpanBoard x = answeredPoint(p);
+                x.measured(1, 7);
+                x.measured(2, 7);
+                Check.due("alarm(0) with halls 1 and 2 measured", x.alarm(0), Steps.NONE);
+                x.measured(0, 7);
+                Check.due("alarm(0) with hall 0 measured", x.alarm(0), 0);
+                Check.due("alarm(1) with hall 0 measured", x.alarm(1), Steps.NONE);
+            }
+        });
+        Check.holds("Promise 1: nothing was measured", () -> {
+            for (int h = 0; h < 3; h++) {
+                SpanBoard x = answeredPoint(0);
+                x.hall(0, h);
+                x.write(0, 5, 5);
+                x.deliverAll(18);
+                x.read(0, 0);
+                x.deliverAll(18);
+                Check.due("alarm(0) of hall " + h, x.alarm(0), Steps.NONE);
+            }
+        });
     }
 }

@@ -1,57 +1,17 @@
 /** Promises 2, 24 and 25: halls, measured values and alarms. */
 public final class HallTest {
     public static void main(String[] args) {
-        edgesOfASpan();
-        hallsInOrder();
         pointMoves();
         onlyWhatWasAnsweredCounts();
         latestOfAnyReader();
         busyChangesNothing();
         anyPointOfAHall();
-        wrongInputs();
         Check.end();
     }
 
     private static void readNow(SpanBoard x, int reader, int point) {
         x.read(reader, point);
         x.deliverAll(99);
-    }
-
-    private static void edgesOfASpan() {
-        SpanBoard x = new SpanBoard(1);
-        x.write(1, -5, 9);
-        x.deliverAll(99);
-        readNow(x, 2, 1);
-        int[][] due = {{-6, 0}, {-5, -1}, {0, -1}, {9, -1}, {10, 0}, {Integer.MIN_VALUE, 0},
-            {Integer.MAX_VALUE, 0}, {-1, -1}};
-        for (int[] pair : due) {
-            Check.yes("measured(0, " + pair[0] + ")", x.measured(0, pair[0]));
-            Check.due("alarm(0) with " + pair[0], x.alarm(0), pair[1]);
-        }
-        Check.yes("measured again, the same", x.measured(0, -1));
-    }
-
-    private static void hallsInOrder() {
-        SpanBoard x = new SpanBoard(1);
-        int[] halls = {2, 0, 1, 0};
-        for (int p = 0; p < 4; p++) {
-            Check.yes("hall(p, h)", x.hall(p, halls[p]));
-            readNow(x, 0, p);
-        }
-        for (int h = 2; h >= 0; h--) {
-            x.measured(h, 3);
-        }
-        Check.due("alarm(0)", x.alarm(0), 0);
-        Check.due("alarm(1)", x.alarm(1), 1);
-        Check.due("alarm(2)", x.alarm(2), 2);
-        Check.due("alarm(3)", x.alarm(3), Steps.NONE);
-        Check.due("alarm(-1)", x.alarm(-1), Steps.NONE);
-        Check.due("alarm(MAX)", x.alarm(Integer.MAX_VALUE), Steps.NONE);
-        Check.due("alarm(MIN)", x.alarm(Integer.MIN_VALUE), Steps.NONE);
-        x.measured(0, 0);
-        Check.due("alarm(0) with hall 0 well", x.alarm(0), 1);
-        Check.due("alarm(1) with hall 0 well", x.alarm(1), 2);
-        Check.due("alarm(2) with hall 0 well", x.alarm(2), Steps.NONE);
     }
 
     private static void pointMoves() {
@@ -135,20 +95,5 @@ public final class HallTest {
             Check.due("alarm(0)", x.alarm(0), 2);
             Check.due("alarm(1)", x.alarm(1), Steps.NONE);
         }
-    }
-
-    private static void wrongInputs() {
-        SpanBoard x = new SpanBoard(1);
-        readNow(x, 0, 0);
-        x.measured(0, 5);
-        for (int h : Steps.NO_HALL) {
-            Check.no("hall(0, " + h + ")", x.hall(0, h));
-            Check.no("measured(" + h + ", 5)", x.measured(h, 5));
-        }
-        for (int p : Steps.NO_POINT) {
-            Check.no("hall(" + p + ", 1)", x.hall(p, 1));
-        }
-        Check.due("alarm(0)", x.alarm(0), 0);
-        Check.due("alarm(1)", x.alarm(1), Steps.NONE);
     }
 }

@@ -5,24 +5,10 @@ public final class ReaderTest {
         readsOfOthersAreFree();
         sevenAnswers();
         askAgain();
-        oldTellsDoNotCount();
-        threeOfSeven();
-        highestNumber();
-        remembered();
-        memoryIsOfOneReaderAndPoint();
         busyInTheLastRound();
         nextRound();
         unwritten();
-        wrongInputs();
         Check.end();
-    }
-
-    private static void answer(SpanBoard x, int reader, int point, int number, int low, int high) {
-        Check.due("outcome", x.outcome(reader), 2);
-        Check.due("answered, point", x.answered(reader, 0), point);
-        Check.due("answered, number", x.answered(reader, 1), number);
-        Check.due("answered, low", x.answered(reader, 2), low);
-        Check.due("answered, high", x.answered(reader, 3), high);
     }
 
     private static void read() {
@@ -76,7 +62,7 @@ public final class ReaderTest {
             x.deliver(0);
             x.deliver(x.letters() - 1);
         }
-        answer(x, 0, 0, 1, 3, 4);
+        Steps.answer(x, 0, 0, 1, 3, 4);
         Check.due("reader(0, 0)", x.reader(0, 0), 1);
         Check.due("outcome(1) of another reader", x.outcome(1), 0);
         Check.due("answered(1, 0) of another reader", x.answered(1, 0), Steps.NONE);
@@ -104,61 +90,6 @@ public final class ReaderTest {
         Check.due("outcome(2)", x.outcome(2), 2);
         Check.due("askAgain(2) after the answer", x.askAgain(2), Steps.NONE);
         Check.due("letters() after it", x.letters(), 0);
-    }
-
-    private static void oldTellsDoNotCount() {
-        SpanBoard x = new SpanBoard(1);
-        x.read(0, 0);
-        x.deliverAll(16);
-        Check.due("letters(), two old tells", x.letters(), 2);
-        x.read(0, 0);
-        x.deliverAll(2);
-        Check.due("reader(0, 2) after old tells", x.reader(0, 2), 0);
-    }
-
-    private static void threeOfSeven() {
-        SpanBoard x = new SpanBoard(1);
-        Steps.writePartly(x, 0, 5, 0, 1);
-        Steps.readFrom(x, 0, 0, 0, 6);
-        answer(x, 0, 0, 0, 0, 0);
-        x.storeAgain(0);
-        x.deliver(2);
-        Steps.readFrom(x, 0, 0, 0, 6);
-        answer(x, 0, 0, 1, 5, 5);
-    }
-
-    private static void highestNumber() {
-        SpanBoard x = new SpanBoard(1);
-        Steps.writeWhole(x, 0, 9, 9);
-        Steps.writePartly(x, 0, 2, 6, 8);
-        Steps.readFrom(x, 0, 0, 2, 8);
-        answer(x, 0, 0, 2, 2, 2);
-    }
-
-    private static void remembered() {
-        SpanBoard x = new SpanBoard(1);
-        Steps.writeWhole(x, 0, 9, 9);
-        Steps.writePartly(x, 0, 2, 0, 2);
-        Steps.readFrom(x, 0, 0, 0, 6);
-        answer(x, 0, 0, 2, 2, 2);
-        Steps.readFrom(x, 0, 0, 2, 8);
-        answer(x, 0, 0, 2, 2, 2);
-        Steps.readFrom(x, 0, 0, 2, 8);
-        answer(x, 0, 0, 2, 2, 2);
-    }
-
-    private static void memoryIsOfOneReaderAndPoint() {
-        SpanBoard x = new SpanBoard(1);
-        Steps.writeWhole(x, 0, 9, 9);
-        Steps.writeWhole(x, 1, 7, 7);
-        Steps.writePartly(x, 0, 2, 0, 2);
-        Steps.readFrom(x, 0, 0, 0, 6);
-        Steps.readFrom(x, 0, 1, 0, 6);
-        answer(x, 0, 1, 1, 7, 7);
-        Steps.readFrom(x, 1, 0, 2, 8);
-        answer(x, 1, 0, 1, 9, 9);
-        Steps.readFrom(x, 0, 0, 2, 8);
-        answer(x, 0, 0, 2, 2, 2);
     }
 
     private static void busyInTheLastRound() {
@@ -208,7 +139,7 @@ public final class ReaderTest {
         }
         Steps.restart(x, 5, 6);
         x.deliverAll(99);
-        answer(x, 1, 0, 3, 3, 3);
+        Steps.answer(x, 1, 0, 3, 3, 3);
         Check.due("reader(1, 0) in the end", x.reader(1, 0), 2);
         Check.due("the next read(1, 0)", x.read(1, 0), 3);
         Check.due("its round", x.reader(1, 1), 1);
@@ -218,27 +149,9 @@ public final class ReaderTest {
         SpanBoard x = new SpanBoard(1);
         x.read(0, 2);
         x.deliverAll(99);
-        answer(x, 0, 2, 0, 0, 0);
+        Steps.answer(x, 0, 2, 0, 0, 0);
         Check.due("answered(0, 4)", x.answered(0, 4), Steps.NONE);
         Check.due("answered(0, -1)", x.answered(0, -1), Steps.NONE);
         Check.due("answered(0, MIN)", x.answered(0, Integer.MIN_VALUE), Steps.NONE);
-    }
-
-    private static void wrongInputs() {
-        SpanBoard x = new SpanBoard(1);
-        for (int r : Steps.NO_READER) {
-            Check.due("read(" + r + ", 0)", x.read(r, 0), Steps.NONE);
-            Check.due("askAgain(" + r + ")", x.askAgain(r), Steps.NONE);
-            Check.due("outcome(" + r + ")", x.outcome(r), Steps.NONE);
-            Check.due("answered(" + r + ", 0)", x.answered(r, 0), Steps.NONE);
-            Check.due("reader(" + r + ", 0)", x.reader(r, 0), Steps.NONE);
-        }
-        for (int p : Steps.NO_POINT) {
-            Check.due("read(0, " + p + ")", x.read(0, p), Steps.NONE);
-        }
-        Check.due("reader(0, -1)", x.reader(0, -1), Steps.NONE);
-        Check.due("reader(0, 3)", x.reader(0, 3), Steps.NONE);
-        Check.due("outcome(0)", x.outcome(0), 0);
-        Check.due("letters()", x.letters(), 0);
     }
 }

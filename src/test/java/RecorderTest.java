@@ -2,18 +2,12 @@
 public final class RecorderTest {
     public static void main(String[] args) {
         lie();
-        lettersToLiars();
-        lettersOfLiars();
         tell();
         tellIsForThePresentQuestion();
         twoLiarsAreNotBelieved();
-        aLiarMayBeTheThird();
         receipt();
         receiptOfTheFinished();
         crash();
-        lettersOfTheCrashed();
-        crashedLiars();
-        wrongInputs();
         Check.end();
     }
 
@@ -25,34 +19,6 @@ public final class RecorderTest {
         Check.yes("lie(0) of one that is down", x.lie(0));
         Check.no("lie(1), a third", x.lie(1));
         Check.no("lie(0) again", x.lie(0));
-    }
-
-    private static void lettersToLiars() {
-        SpanBoard x = new SpanBoard(1);
-        Steps.writeWhole(x, 0, 4, 4);
-        x.lie(2);
-        x.write(0, 5, 5);
-        x.read(0, 0);
-        Check.due("letters(), those to the liar too", x.letters(), 18);
-        Check.yes("deliver of STORE", x.deliver(Steps.find(x, Steps.STORE, 2)));
-        Check.yes("deliver of ASK", x.deliver(Steps.find(x, Steps.ASK, 2)));
-        Check.due("letters()", x.letters(), 16);
-        Check.due("held(2, 0, 1)", x.held(2, 0, 1), 4);
-        Check.due("held(2, 0, 0)", x.held(2, 0, 0), 1);
-    }
-
-    /** What a recorder has sent before it became a liar is still on its way. */
-    private static void lettersOfLiars() {
-        SpanBoard x = new SpanBoard(1);
-        x.write(0, 5, 5);
-        x.read(0, 0);
-        Steps.bring(x, Steps.STORE, 6, 6);
-        Steps.bring(x, Steps.ASK, 6, 6);
-        x.lie(6);
-        Steps.bring(x, Steps.RECEIPT, 6, 6);
-        Steps.bring(x, Steps.TELL, 6, 6);
-        Check.due("writer(0, 2)", x.writer(0, 2), 1);
-        Check.due("reader(0, 2)", x.reader(0, 2), 1);
     }
 
     private static void tell() {
@@ -107,26 +73,6 @@ public final class RecorderTest {
         x.deliverAll(99);
         Check.due("outcome(0)", x.outcome(0), 2);
         Check.due("answered(0, 1)", x.answered(0, 1), 0);
-    }
-
-    /** Alike means the number, low and high: a liar is a third only if it tells all of them. */
-    private static void aLiarMayBeTheThird() {
-        int[][] told = {{1, 5, 7, 1}, {2, 5, 7, 0}, {0, 5, 7, 0}, {1, 4, 7, 0}, {1, 5, 8, 0}, {1, 5, 6, 0}};
-        for (int[] pair : told) {
-            SpanBoard x = new SpanBoard(1);
-            x.lie(0);
-            x.write(0, 5, 7);
-            x.deliver(1);
-            x.deliver(1);
-            Steps.loseAll(x);
-            x.read(0, 0);
-            Check.yes("tell", x.tell(0, 0, pair[0], pair[1], pair[2]));
-            x.deliver(9);
-            Steps.bring(x, Steps.ASK, 1, 6);
-            Steps.bring(x, Steps.TELL, 1, 6);
-            Check.due("outcome(0)", x.outcome(0), 2);
-            Check.due("answered(0, 1)", x.answered(0, 1), pair[3]);
-        }
     }
 
     private static void receipt() {
@@ -190,54 +136,5 @@ public final class RecorderTest {
         for (int r = 0; r < 9; r++) {
             Check.yes("crash(r) of all", x.crash(r));
         }
-    }
-
-    private static void lettersOfTheCrashed() {
-        SpanBoard x = new SpanBoard(1);
-        x.write(0, 3, 3);
-        x.read(0, 0);
-        Steps.bring(x, Steps.STORE, 1, 1);
-        Steps.bring(x, Steps.ASK, 1, 1);
-        x.crash(1);
-        Steps.bring(x, Steps.RECEIPT, 1, 1);
-        Steps.bring(x, Steps.TELL, 1, 1);
-        Check.due("writer(0, 2)", x.writer(0, 2), 1);
-        Check.due("reader(0, 2)", x.reader(0, 2), 1);
-    }
-
-    /** A restart makes no liar honest. */
-    private static void crashedLiars() {
-        SpanBoard x = new SpanBoard(1);
-        x.lie(4);
-        Check.yes("crash(4)", x.crash(4));
-        Check.yes("restart(4)", x.restart(4));
-        x.write(0, 1, 1);
-        x.deliver(4);
-        Check.due("held(4, 0, 0)", x.held(4, 0, 0), 0);
-        Check.yes("receipt(4, 0)", x.receipt(4, 0));
-    }
-
-    private static void wrongInputs() {
-        SpanBoard x = new SpanBoard(1);
-        x.lie(0);
-        x.write(0, 1, 1);
-        x.read(0, 0);
-        for (int r : Steps.NO_RECORDER) {
-            Check.no("lie(" + r + ")", x.lie(r));
-            Check.no("crash(" + r + ")", x.crash(r));
-            Check.no("restart(" + r + ")", x.restart(r));
-            Check.no("tell(" + r + ", 0, 1, 1, 1)", x.tell(r, 0, 1, 1, 1));
-            Check.no("receipt(" + r + ", 0)", x.receipt(r, 0));
-        }
-        for (int r : Steps.NO_READER) {
-            Check.no("tell(0, " + r + ", 1, 1, 1)", x.tell(0, r, 1, 1, 1));
-        }
-        for (int p : Steps.NO_POINT) {
-            Check.no("receipt(0, " + p + ")", x.receipt(0, p));
-        }
-        Check.no("tell, number MIN", x.tell(0, 0, Integer.MIN_VALUE, 1, 1));
-        Check.no("tell, MAX above MIN", x.tell(0, 0, 1, Integer.MAX_VALUE, Integer.MIN_VALUE));
-        Check.due("letters()", x.letters(), 18);
-        Check.yes("lie(1), there is one only", x.lie(1));
     }
 }

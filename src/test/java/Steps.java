@@ -119,6 +119,25 @@ final class Steps {
         Check.due("deliverAll(16)", x.deliverAll(16), 16);
     }
 
+    /** The letter at a place, whole, and nothing beyond what a letter has. */
+    static void row(SpanBoard x, int i, int kind, int recorder, int point, int reader, int number) {
+        int[] due = {kind, recorder, point, reader, number};
+        for (int what = 0; what < 5; what++) {
+            Check.due("letter(" + i + ", " + what + ")", x.letter(i, what), due[what]);
+        }
+        Check.due("letter(" + i + ", 5)", x.letter(i, 5), NONE);
+        Check.due("letter(" + i + ", -1)", x.letter(i, -1), NONE);
+    }
+
+    /** What a reader answered latest, which was a pair. */
+    static void answer(SpanBoard x, int reader, int point, int number, int low, int high) {
+        Check.due("outcome(" + reader + ")", x.outcome(reader), 2);
+        Check.due("answered(" + reader + ", 0)", x.answered(reader, 0), point);
+        Check.due("answered(" + reader + ", 1)", x.answered(reader, 1), number);
+        Check.due("answered(" + reader + ", 2)", x.answered(reader, 2), low);
+        Check.due("answered(" + reader + ", 3)", x.answered(reader, 3), high);
+    }
+
     /** Fills the post with STOREs of a point's open write. */
     static void fill(SpanBoard x, int point) {
         while (x.letters() < FULL) {

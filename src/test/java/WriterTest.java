@@ -4,14 +4,10 @@ public final class WriterTest {
         write();
         writeOfOtherPointsIsFree();
         finishedBySeven();
-        oldReceiptsDoNotCount();
         storeAgain();
-        lateStore();
-        storeOfTheSameNumber();
         forget();
         forgetOfTheFinished();
         held();
-        wrongInputs();
         Check.end();
     }
 
@@ -70,16 +66,6 @@ public final class WriterTest {
         Check.due("writer(2, 2) of another point", x.writer(2, 2), 0);
     }
 
-    private static void oldReceiptsDoNotCount() {
-        SpanBoard x = new SpanBoard(1);
-        x.write(0, 1, 1);
-        x.deliverAll(16);
-        Check.due("letters(), two receipts", x.letters(), 2);
-        Check.due("write(0, 2, 2)", x.write(0, 2, 2), 2);
-        x.deliverAll(2);
-        Check.due("writer(0, 2) after receipts of write 1", x.writer(0, 2), 0);
-    }
-
     private static void storeAgain() {
         SpanBoard x = new SpanBoard(1);
         Check.due("storeAgain(1) before a write", x.storeAgain(1), Steps.NONE);
@@ -102,38 +88,6 @@ public final class WriterTest {
         Check.due("writer(1, 1)", x.writer(1, 1), 0);
         Check.due("storeAgain(1) of the finished", x.storeAgain(1), Steps.NONE);
         Check.due("letters() after it", x.letters(), 0);
-    }
-
-    /** A recorder that has a newer pair keeps it, and receipts the older number all the same. */
-    private static void lateStore() {
-        SpanBoard x = new SpanBoard(1);
-        x.write(0, 1, 1);
-        x.twin(0);
-        x.deliverAll(9);
-        Steps.deliverRun(x, 1, 9);
-        Check.due("writer(0, 1)", x.writer(0, 1), 0);
-        x.write(0, 2, 2);
-        x.deliver(1);
-        Check.due("held(0, 0, 0) with write 2", x.held(0, 0, 0), 2);
-        Check.due("the late STORE's number", x.letter(0, 4), 1);
-        x.deliver(0);
-        Check.due("held(0, 0, 0) after the late STORE", x.held(0, 0, 0), 2);
-        Check.due("held(0, 0, 1) after the late STORE", x.held(0, 0, 1), 2);
-        int last = x.letters() - 1;
-        Check.due("its answer's kind", x.letter(last, 0), Steps.RECEIPT);
-        Check.due("its answer's number", x.letter(last, 4), 1);
-    }
-
-    private static void storeOfTheSameNumber() {
-        SpanBoard x = new SpanBoard(1);
-        x.write(0, 4, 4);
-        x.deliver(0);
-        Steps.loseAll(x);
-        Check.due("storeAgain(0), its receipt was lost", x.storeAgain(0), 9);
-        x.deliver(0);
-        Check.due("the kind of what it sends again", x.letter(8, 0), Steps.RECEIPT);
-        Check.due("who sends it", x.letter(8, 1), 0);
-        Check.due("held(0, 0, 1)", x.held(0, 0, 1), 4);
     }
 
     private static void forget() {
@@ -178,23 +132,5 @@ public final class WriterTest {
         Check.due("held(4, 1, -1)", x.held(4, 1, -1), Steps.NONE);
         Check.due("held(4, 0, 0), another point", x.held(4, 0, 0), 0);
         Check.due("held(3, 1, 2), another recorder", x.held(3, 1, 2), 0);
-    }
-
-    private static void wrongInputs() {
-        SpanBoard x = new SpanBoard(1);
-        for (int p : Steps.NO_POINT) {
-            Check.due("write(" + p + ", 1, 2)", x.write(p, 1, 2), Steps.NONE);
-            Check.due("storeAgain(" + p + ")", x.storeAgain(p), Steps.NONE);
-            Check.no("forget(" + p + ")", x.forget(p));
-            Check.due("writer(" + p + ", 0)", x.writer(p, 0), Steps.NONE);
-            Check.due("held(0, " + p + ", 0)", x.held(0, p, 0), Steps.NONE);
-        }
-        for (int r : Steps.NO_RECORDER) {
-            Check.due("held(" + r + ", 0, 0)", x.held(r, 0, 0), Steps.NONE);
-        }
-        Check.due("writer(0, -1)", x.writer(0, -1), Steps.NONE);
-        Check.due("writer(0, 4)", x.writer(0, 4), Steps.NONE);
-        Check.due("write(0, MAX, MIN)", x.write(0, Integer.MAX_VALUE, Integer.MIN_VALUE), Steps.NONE);
-        Check.due("letters()", x.letters(), 0);
     }
 }
