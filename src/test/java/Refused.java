@@ -31,6 +31,10 @@ final class Refused {
         SpanBoard second = scene.get();
         asked.applyAsInt(second);
         compare(call + ", later ", Trace.later(second), Trace.later(scene.get()));
+        SpanBoard third = scene.get();
+        asked.applyAsInt(third);
+        compare(call + ", the post lost, later ", Trace.laterWithoutPost(third),
+            Trace.laterWithoutPost(scene.get()));
     }
 
     private static void compare(String after, List<String> got, List<String> want) {

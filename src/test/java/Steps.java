@@ -138,10 +138,11 @@ final class Steps {
         Check.due("answered(" + reader + ", 3)", x.answered(reader, 3), high);
     }
 
-    /** Fills the post with STOREs of a point's open write. */
+    /** Fills the post with STOREs of a point's open write, of which at most three have a receipt. */
     static void fill(SpanBoard x, int point) {
-        while (x.letters() < FULL) {
+        for (int n = 0; n < FULL / 6; n++) {
             x.storeAgain(point);
         }
+        Check.due("letters() of a full post", x.letters(), FULL);
     }
 }

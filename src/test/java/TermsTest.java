@@ -291,6 +291,9 @@ public final class TermsTest {
             Steps.row(x, 299, Steps.TELL, 8, 3, 2, 1);
         });
         Check.holds("Promise 10: all of a full post come, and what they send", () -> {
+            SpanBoard y = Scenes.full();
+            Check.due("deliverAll(MAX), all but a liar's are receipted", y.deliverAll(MOST), 567);
+            Check.due("letters()", y.letters(), 0);
             SpanBoard x = new SpanBoard(1);
             x.write(0, 1, 1);
             Steps.fill(x, 0);

@@ -34,6 +34,14 @@ final class Trace {
         return trace.rows;
     }
 
+    /** As later, but of a board of few letters, all of which are lost first. */
+    static List<String> laterWithoutPost(SpanBoard x) {
+        if (x.letters() <= 2 * LETTERS_AT_EACH_END) {
+            Steps.loseAll(x);
+        }
+        return later(x);
+    }
+
     private void row(String call, int answer) {
         rows.add(call + " = " + answer);
     }
